@@ -1,0 +1,253 @@
+import java.util.ArrayList;
+import java.util.List;
+import java.util.Random;
+
+/** Long runs of calls, the same every time, whose answers must be those of the model. */
+public final class CompareTest {
+    private static int wrong;
+    private static long calls;
+    private static int reorgs, unsound, pooledTwice, heldMost, accepted, tried;
+
+    public static void main(String[] args) {
+        int runs = args.length > 0 ? Integer.parseInt(args[0]) : 12;
+        int from = args.length > 1 ? Integer.parseInt(args[1]) : 0;
+        for (int seed = from; seed < from + runs && wrong == 0; seed++) {
+            byHand(seed);
+            inAnyOrder(new Maker(seed), "in any order " + seed, 60, 3);
+            inAnyOrder(new Maker(seed + 500000), "far out of order " + seed, 120, 30);
+            Maker rivals = new Maker(seed + 700000);
+            rivals.rivals = true;
+            rivals.faults = 1;
+            rivals.mostPayments = 8;
+            inAnyOrder(rivals, "rivals " + seed, 80, 4);
+            scripts(seed);
+        }
+        System.out.println(calls + " calls compared; tips changed branch " + reorgs + " times, unsound blocks "
+                + unsound + ", most held " + heldMost + ", pool refilled " + pooledTwice
+                + ", scripts " + accepted + " of " + tried);
+        if (wrong != 0) {
+            System.exit(1);
+        }
+    }
+
+    private static void close(Twin twin) {
+        twin.compareAll();
+        wrong += twin.wrong;
+        calls += twin.calls;
+    }
+
+    /** What the calls of the face alone can do. */
+    private static void byHand(int seed) {
+        Random random = new Random(seed);
+        Twin twin = new Twin("by hand " + seed);
+        for (int i = 0; i < 700 && twin.wrong == 0; i++) {
+            someCalls(twin, random);
+            if (i % 50 == 0) {
+                twin.compareAll();
+            }
+        }
+        close(twin);
+    }
+
+    private static void someCalls(Twin twin, Random random) {
+        int stored = twin.model.stored.size();
+        int coins = twin.model.tip.coins.size();
+        switch (random.nextInt(16)) {
+            case 0, 1, 2 -> {
+                int time = Math.min(Model.median(twin.model.tip), 1 << 30) + random.nextInt(60);
+                twin.draft(-1, time, random.nextInt(3), random.nextInt(4) > 0);
+                twin.mine(1 + random.nextInt(2000));
+                twin.send();
+            }
+            case 3 -> {
+                int parent = Math.max(0, stored - 1 - random.nextInt(8));
+                int time = Model.median(twin.model.stored.get(parent)) + random.nextInt(30);
+                twin.draft(parent, time, random.nextInt(3), random.nextBoolean());
+                twin.mine(1 + random.nextInt(60));
+                twin.send();
+            }
+            case 4, 5, 6 -> spendSome(twin, random, coins);
+            case 7 -> {
+                twin.back();
+                twin.alter(random.nextInt(Math.max(1, twin.model.out.length)), random.nextInt(256));
+                if (random.nextBoolean()) {
+                    twin.block();
+                } else {
+                    twin.pay();
+                }
+            }
+            case 8 -> {
+                twin.feedAll(Model.keyLock(random.nextInt(3)));
+                twin.balance();
+            }
+            case 9 -> {
+                twin.feed(random.nextInt(), random.nextInt(), random.nextInt(), 0, 0);
+                twin.end(random.nextInt(30) - 1);
+                twin.script(random.nextInt(11) - 2);
+            }
+            case 10 -> {
+                twin.back();
+                twin.balance();
+            }
+            case 11 -> twin.draft(random.nextInt(stored + 4) - 3, random.nextInt(400) - 10, 5, true);
+            case 12 -> {
+                twin.spend(random.nextInt(coins + 3) - 1, random.nextInt(10), 1,
+                        random.nextInt(3000000) - 10, random.nextInt(10) - 1);
+                twin.mine(random.nextInt(4) * 700);
+            }
+            case 13 -> {
+                twin.sign(random.nextInt(9) - 1, random.nextInt(3));
+                twin.send();
+            }
+            case 14 -> twin.end(0);
+            default -> twin.compareSums();
+        }
+    }
+
+    private static void spendSome(Twin twin, Random random, int coins) {
+        int n = 1 + random.nextInt(random.nextInt(4) == 0 ? 8 : 2);
+        int k = random.nextInt(coins + 1);
+        if (twin.spend(k, n, random.nextInt(3), random.nextInt(900000), random.nextInt(9)) < 0) {
+            return;
+        }
+        Model.Tx made = Model.readTx(twin.model.out);
+        if (random.nextInt(6) == 0) {
+            twin.end(0);
+            twin.feedAll(random.nextBoolean() ? new byte[0] : Model.bytes(1, random.nextInt(20), 96, 102));
+            twin.script(-1);
+        }
+        for (int i = 0; i < n; i++) {
+            byte[] lock = twin.model.tip.coins.get(made.ins.get(i).coin).out.lock;
+            if (lock.length == 6) {
+                twin.sign(i, random.nextInt(12) == 0 ? 7 : lock[4]);
+            } else {
+                twin.end(0);
+                twin.feedAll(Model.bytes(102));
+                twin.script(i);
+            }
+        }
+        twin.send();
+    }
+
+    /** Blocks and payments of many branches, out of order, some with faults. */
+    private static void inAnyOrder(Maker maker, String name, int blocks, int window) {
+        Twin twin = new Twin(name);
+        List<byte[]> waiting = new ArrayList<>();
+        int made = 0;
+        while ((made < blocks || !waiting.isEmpty()) && twin.wrong == 0) {
+            if (made < blocks && waiting.size() < window) {
+                waiting.add(maker.someBlock(maker.someParent()));
+                made++;
+                continue;
+            }
+            byte[] next = waiting.remove(maker.below(waiting.size()));
+            paySome(maker, twin, next);
+            Model.Node former = twin.model.tip;
+            int pooled = twin.model.pool.size();
+            int answer = twin.giveBlock(next);
+            reorgs += Model.leadsTo(former, twin.model.tip) ? 0 : 1;
+            pooledTwice += twin.model.pool.size() > pooled ? 1 : 0;
+            heldMost = Math.max(heldMost, twin.model.held.size());
+            unsound += answer > 0 && answer < 1000 && twin.model.stored.get(answer).coins == null ? 1 : 0;
+            if (answer == Model.FULL && maker.chance(70)) {
+                waiting.add(next);
+            }
+            if (maker.chance(10)) {
+                twin.giveBlock(next);
+            }
+            twin.compareSums();
+            if (maker.chance(10)) {
+                twin.compareAll();
+            }
+        }
+        close(twin);
+    }
+
+    private static void paySome(Maker maker, Twin twin, byte[] next) {
+        Model.Node node = Model.readBlock(next);
+        if (node != null && maker.chance(40)) {
+            for (Model.Tx tx : node.txs) {
+                twin.givePay(tx.bytes);
+            }
+        }
+        for (int i = maker.below(3); i > 0; i--) {
+            java.util.TreeMap<String, Model.CoinAt> coins = new java.util.TreeMap<>(twin.model.tip.coins);
+            int height = twin.model.tip.height + 1;
+            for (Model.Entry e : twin.model.pool) {
+                Model.apply(e.tx, height, coins);
+            }
+            Model.Tx tx = maker.somePayment(coins, height);
+            if (tx != null) {
+                twin.givePay(tx.bytes);
+            }
+        }
+        if (maker.chance(20)) {
+            twin.draft(-1, Model.median(twin.model.tip) + 1, 1, true);
+            twin.compareSums();
+        }
+    }
+
+    /** Key scripts of all kinds on locks of all kinds. */
+    private static void scripts(int seed) {
+        Maker maker = new Maker(seed + 1000000);
+        Twin twin = new Twin("scripts " + seed);
+        for (int i = 0; i < 10; i++) {
+            Model.Node parent = maker.donor.tip;
+            Model.Tx first = new Model.Tx();
+            first.lock = parent.height + 1;
+            for (int k = 0; k < 8; k++) {
+                Model.Out out = new Model.Out();
+                out.value = 10 + k;
+                out.lock = maker.chance(50) ? new byte[0] : maker.someScript(maker.below(4));
+                first.outs.add(out);
+            }
+            first.bytes = first.write();
+            List<Model.Tx> txs = List.of(first);
+            twin.giveBlock(maker.mined(parent, Model.median(parent) + 1 + maker.below(20), Model.due(parent), txs));
+        }
+        for (int i = 0; i < 400 && twin.wrong == 0; i++) {
+            List<String> names = new ArrayList<>(twin.model.tip.coins.keySet());
+            String name = names.get(maker.below(names.size()));
+            Model.CoinAt coin = twin.model.tip.coins.get(name);
+            if (coin.height + 6 > twin.model.tip.height + 1) {
+                continue;
+            }
+            Model.Tx tx = new Model.Tx();
+            Model.In in = new Model.In();
+            in.coin = name;
+            in.key = new byte[0];
+            tx.ins.add(in);
+            tx.outs.add(coin.out);
+            in.key = keyScript(maker, tx.signHash());
+            tried++;
+            accepted += twin.givePay(tx.write()) >= 0 ? 1 : 0;
+        }
+        close(twin);
+    }
+
+    private static byte[] keyScript(Maker maker, byte[] signHash) {
+        byte[] script = maker.someScript(0);
+        if (maker.chance(40)) {
+            byte[] keys = new byte[0];
+            byte[] signatures = new byte[0];
+            int n = maker.below(4);
+            int m = 0;
+            for (int i = 0; i < n; i++) {
+                byte[] key = Model.bytes(maker.below(2));
+                keys = Model.join(keys, Model.bytes(1), key);
+                if (maker.chance(50)) {
+                    byte[] signer = maker.chance(80) ? key : Model.bytes(maker.below(3));
+                    signatures = Model.join(signatures, Maker.pushSignature(signer, signHash));
+                    m++;
+                }
+            }
+            m += maker.chance(10) ? maker.below(3) - 1 : 0;
+            n += maker.chance(10) ? maker.below(3) - 1 : 0;
+            script = Model.join(signatures, Model.bytes(1, m), keys, Model.bytes(1, n, 103));
+            if (maker.chance(10)) {
+                script = Model.join(script, maker.someScript(1));
+            }
+        }
+        return script.length > 80 ? java.util.Arrays.copyOf(script, 80) : script;
+    }
+}
