@@ -32,6 +32,8 @@ public final class ChainLedger {
     private static final int NONCE_AT = 72;
     private static final int HEADER_BYTES = 76;
     private static final int PAYMENTS_AT = 77;
+    // Of the first payment that draft makes.
+    private static final int FIRST_BYTES = 17;
 
     // Places in the bytes of an input and of an output; a script's bytes follow its size.
     private static final int INDEX_AT = 32;
@@ -103,8 +105,8 @@ public final class ChainLedger {
         return former;
     }
 
-    // block and send name the three stages of a coming block each for itself: a method between
-    // would make the calls too deep for the language.
+    // block and send each name the three stages of a coming block themselves: with a method between
+    // the calls would go deeper than the language allows.
     public int block() {
         int answer = chain.receive(tape.bytes, tape.size);
         chain.settle();
@@ -124,29 +126,17 @@ public final class ChainLedger {
         if (base == null || time < 0) {
             return REFUSED;
         }
-        int height = base.height + 1;
-        int firstBytes = 17;
-        int others = pool && base == chain.tip ? waiting.fitting(PAYMENTS_AT + firstBytes) : 0;
+        int others = pool && base == chain.tip ? waiting.fitting(PAYMENTS_AT + FIRST_BYTES) : 0;
         outKind = A_BLOCK;
         out.size = 0;
-        out.addBytes(base.id, 0, HASH_BYTES);
-        out.addBytes(base.id, 0, HASH_BYTES);
-        out.addNumber(time);
-        out.addNumber(chain.dueTarget(base));
-        out.addNumber(0);
+        writeHeader(base, time);
         out.addByte(others + 1);
-        out.addNumber(height);
-        out.addByte(0);
-        out.addByte(1);
-        out.addKeyOutput((int) (rewardAt(height) + waiting.feesOf(others)), key);
-        sha.digest(out.bytes, PAYMENTS_AT, firstBytes, 2, chain.ids, 0);
+        writeFirst(base.height + 1, waiting.feesOf(others), key);
         for (int i = 0; i < others; i++) {
             Payment payment = waiting.members.get(i);
             out.addBytes(payment.bytes, payment.start, payment.size);
-            System.arraycopy(payment.id, 0, chain.ids, (i + 1) * HASH_BYTES, HASH_BYTES);
         }
-        sha.foldToRoot(chain.ids, others + 1);
-        System.arraycopy(chain.ids, 0, out.bytes, ROOT_AT, HASH_BYTES);
+        putRoot(others);
         return out.size;
     }
 
@@ -371,6 +361,32 @@ public final class ChainLedger {
         }
     }
 
+    private void writeHeader(Block base, int time) {
+        out.addBytes(base.id, 0, HASH_BYTES);
+        // Keeps the place of the root, which is known when all payments stand.
+        out.addBytes(base.id, 0, HASH_BYTES);
+        out.addNumber(time);
+        out.addNumber(chain.dueTarget(base));
+        out.addNumber(0);
+    }
+
+    private void writeFirst(int height, long fees, int key) {
+        out.addNumber(height);
+        out.addByte(0);
+        out.addByte(1);
+        out.addKeyOutput((int) (rewardAt(height) + fees), key);
+    }
+
+    /** Puts the root of the drafted block, which has so many payments of the pool, in its place. */
+    private void putRoot(int others) {
+        sha.digest(out.bytes, PAYMENTS_AT, FIRST_BYTES, 2, chain.ids, 0);
+        for (int i = 0; i < others && i < waiting.members.size(); i++) {
+            System.arraycopy(waiting.members.get(i).id, 0, chain.ids, (i + 1) * HASH_BYTES, HASH_BYTES);
+        }
+        sha.foldToRoot(chain.ids, others + 1);
+        System.arraycopy(chain.ids, 0, out.bytes, ROOT_AT, HASH_BYTES);
+    }
+
     private boolean readOutPayment() {
         return outKind == A_PAYMENT && outPayment.read(out.bytes, 0, out.size) == out.size;
     }
@@ -500,7 +516,7 @@ public final class ChainLedger {
             }
         }
 
-        /** Brings n ids, of which the row has room for one more, to their root at its beginning. */
+        /** Brings n ids to their root at the beginning of the row, which has room for an even n. */
         void foldToRoot(byte[] ids, int n) {
             for (int left = n; left > 1; left = (left + 1) / 2) {
                 if (left % 2 != 0) {
@@ -1209,8 +1225,8 @@ public final class ChainLedger {
         int storedBytes;
         final ArrayList<Block> held = new ArrayList<>();
         Block tip;
-        /** Room for the ids of a block, and for the last one again. */
-        final byte[] ids = new byte[(MOST_PAYMENTS + 1) * HASH_BYTES];
+        /** A row in which the ids of a block's payments become its root. */
+        final byte[] ids = new byte[MOST_PAYMENTS * HASH_BYTES];
         /** The blocks that the last settling has left behind, the highest first. */
         final Block[] left = new Block[MOST_STORED];
         int leftCount;

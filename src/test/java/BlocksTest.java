@@ -135,6 +135,26 @@ public final class BlocksTest {
         due("of 33", new Rig().block(raw(33, many)), FORM);
         due("of 32", new Rig().block(raw(32, Arrays.copyOf(many, 32))), 1);
         largest();
+        cutAtTheBrim();
+    }
+
+    /** Tapes of 4096 bytes that break off in every part of a payment. */
+    private static void cutAtTheBrim() {
+        byte[][] locks = new byte[8][80];
+        byte[] header = Rig.mined(Rig.ZEROS, 10, 32768, plain(1));
+        Rig rig = new Rig();
+        for (int shift = 0; shift <= 240; shift++) {
+            byte[] all = Arrays.copyOf(header, 77);
+            all[76] = 32;
+            byte[] moved = Rig.first(1, 1, new byte[Math.min(80, shift)], new byte[Math.max(0, Math.min(80, shift - 80))],
+                    new byte[Math.max(0, shift - 160)]).bytes;
+            all = Model.join(all, moved, Rig.first(2, 1, locks).bytes, Rig.first(3, 1, locks).bytes);
+            while (all.length < 4096) {
+                String[] coins = {"ab".repeat(32) + "01", "ab".repeat(32) + "02"};
+                all = Model.join(all, Rig.payment(1, new byte[9], coins).bytes);
+            }
+            due("cut, moved by " + shift, rig.block(Arrays.copyOf(all, 4096)), FORM);
+        }
     }
 
     private static void largest() {
@@ -224,6 +244,8 @@ public final class BlocksTest {
         due("of the latest seven, above", follow(41, 10, 20, 30, 40, 50, 60, 70), 8);
         due("out of order: 0 10 50 60 100", follow(50, 10, 100, 50, 60), RULE);
         due("out of order: 0 10 50 60 100, above", follow(51, 10, 100, 50, 60), 5);
+        due("seven and no more", follow(34, 10, 20, 30, 1000, 31, 32, 33, 34, 35, 36, 37), RULE);
+        due("seven and no more, above", follow(35, 10, 20, 30, 1000, 31, 32, 33, 34, 35, 36, 37), 12);
         due("highest", follow(Integer.MAX_VALUE, 10), 2);
         Rig rig = new Rig();
         rig.x.draft(0, 5, 1, false);
@@ -278,6 +300,13 @@ public final class BlocksTest {
         due("to 8", slow.x.stored(8, 3), 32768 * 21 / 80);
         slow.grow(-1, 99999, 1, false);
         due("to 16", slow.x.stored(16, 3), 32768 * 21 / 80 * 4);
+        int[] times = {3, 6, 9, 12, 15, 18, 80, 100, 150, 155, 160, 165, 170, 175, 200};
+        Rig uneven = new Rig();
+        for (int time : times) {
+            uneven.grow(-1, time, 1, false);
+        }
+        uneven.x.draft(-1, 300, 1, false);
+        due("from 100 to 200", leadingTarget(uneven.out()), 32768 * 100 / 80);
         spanBelowZero();
     }
 
@@ -358,27 +387,39 @@ public final class BlocksTest {
 
     /** 255 blocks of two calls each, so that all is done in the 512 calls of one object. */
     private static void storedFull() {
+        ChainLedger x = fill();
+        due("no such block", x.stored(256, 0), -2);
+        due("height", x.tip(0), 255);
+        x = fill();
+        due("draft", x.draft(200, 1000000, 1, false), 94);
+        due("no such block to draft on", x.draft(256, 1000000, 1, false), -1);
+        x = fill();
+        x.draft(-1, 1000000, 1, false);
+        due("one too many", x.send(), FULL);
+        x = fill();
+        due("coins", x.count(2), 255);
+        due("stored", x.count(0), 256);
+    }
+
+    private static ChainLedger fill() {
         ChainLedger x = new ChainLedger();
         Model.Node parent = new Model.Node();
-        int calls = 0;
-        for (int i = 1; i <= 256; i++) {
+        for (int i = 1; i <= 255; i++) {
             int height = parent.height + 1;
             int time = parent.time + 40;
+            Model.Tx first = Model.firstTx(height, Model.reward(height), Model.keyLock(1));
             Model.Node next = null;
             while (next == null) {
                 time++;
-                Model.Tx first = Model.firstTx(height, Model.reward(height), Model.keyLock(1));
                 next = Model.readBlock(Model.blockBytes(parent, time, Model.due(parent), 0, List.of(first)));
             }
             next.parent = parent;
             next.height = height;
             x.draft(-1, time, 1, true);
-            int answer = x.send();
-            calls += 2;
-            due("stored " + i, answer, i < 256 ? i : FULL);
+            due("stored " + i, x.send(), i);
             parent = next;
         }
-        due("calls", calls, 512);
+        return x;
     }
 
     private static void storedBytesFull() {

@@ -22,6 +22,7 @@ public final class CompareTest {
             inAnyOrder(rivals, "rivals " + seed, 80, 4);
             scripts(seed);
         }
+        anyArguments();
         System.out.println(calls + " calls compared; tips changed branch " + reorgs + " times, unsound blocks "
                 + unsound + ", most held " + heldMost + ", pool refilled " + pooledTwice
                 + ", scripts " + accepted + " of " + tried);
@@ -101,6 +102,48 @@ public final class CompareTest {
             }
             case 14 -> twin.end(0);
             default -> twin.compareSums();
+        }
+    }
+
+    /** Arguments far out, on a new object and on used ones. */
+    private static void anyArguments() {
+        int[] some = {Integer.MIN_VALUE, -1001, -3, -2, -1, 0, 1, 2, 5, 6, 7, 8, 9, 255, 256, 2000, 2001, 4096,
+            1000000, Integer.MAX_VALUE - 1, Integer.MAX_VALUE};
+        for (int stage = 0; stage < 3; stage++) {
+            Twin twin = new Twin("any arguments, stage " + stage);
+            for (int i = 0; i < 9 * stage; i++) {
+                twin.draft(-1, 10 * i + 10, 1, true);
+                twin.mine(2000);
+                twin.send();
+            }
+            for (int a : some) {
+                twin.end(a);
+                twin.feed(a, a, a, a, a);
+                twin.script(a);
+                twin.octet(a);
+                twin.tip(a);
+                twin.count(a);
+                twin.sign(a, a);
+                twin.mine(a);
+                for (int b : some) {
+                    twin.alter(a, b);
+                    twin.stored(a, b);
+                    twin.coin(a, b);
+                    twin.pooled(a, b);
+                    twin.draft(a, b, a, true);
+                    for (int c : some) {
+                        twin.spend(stage, 1, a, b, c);
+                        twin.spend(a, b, c, c, c);
+                        twin.spend(a, 2, b, 3, c);
+                    }
+                    twin.sign(a, b);
+                    twin.script(b);
+                }
+                twin.send();
+                twin.back();
+                twin.pay();
+            }
+            close(twin);
         }
     }
 

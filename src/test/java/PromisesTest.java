@@ -147,6 +147,7 @@ public final class PromisesTest {
         due("6 all of it", rig.pay(Rig.keyed(Rig.payment(50, lock, Rig.coin(first, 1)), open()).bytes), 0);
         due("6 two inputs", rig.pay(Rig.keyed(
                 Rig.payment(99, lock, Rig.coin(first, 2), Rig.coin(first, 3)), open()).bytes), 1);
+        due("6 wrong key again", rig.pay(Rig.signed(Rig.payment(2, lock, Rig.coin(first, 7)), 6).bytes), RULE);
         due("6 signed", rig.pay(Rig.signed(Rig.payment(50, lock, Rig.coin(first, 7)), 5).bytes), 0);
         Model.Tx locked = Rig.payment(50, lock, Rig.coin(first, 4));
         locked.lock = 9;
@@ -268,7 +269,8 @@ public final class PromisesTest {
         due("6 d stays", rig.x.count(4), 1);
         due("6 block 11", rig.grow(10, 120, 2, false), 11);
         due("6 level", rig.x.tip(1), 9);
-        due("6 block 12", rig.grow(11, 130, 2, false), 12);
+        rig.x.draft(11, 130, 2, false);
+        due("6 block 12", rig.block(Rig.mine(rig.out())), 12);
         due("6 other branch", rig.x.tip(1), 12);
         // a and c come back in their order, before d; b may not.
         due("6 anew", rig.x.count(4), 3);
@@ -349,6 +351,15 @@ public final class PromisesTest {
             due("8 then none for " + time, rig.x.mine(1), 0);
         }
         due("8 some were not enough", never > 0 ? 1 : 0, 1);
+        // An id that begins with the target itself is not below it.
+        Model.Tx first = Model.firstTx(1, 1000000, Model.keyLock(1));
+        int time = 1;
+        while (Model.leading(Model.blockBytes(new Model.Node(), time, 32768, 0, List.of(first))) != 32768) {
+            time++;
+        }
+        rig.x.draft(0, time, 1, false);
+        due("8 at the target", rig.x.mine(2000), Model.nonce(rig.out()));
+        due("8 not at once", Model.nonce(rig.out()) > 0 ? 1 : 0, 1);
         due("8 of 0", rig.x.mine(0), REFUSED);
         due("8 below 0", rig.x.mine(-1), REFUSED);
         due("8 of 2001", rig.x.mine(2001), REFUSED);
@@ -375,6 +386,7 @@ public final class PromisesTest {
         due("9 far more", rig.x.spend(0, 1, 0, Integer.MAX_VALUE, Integer.MAX_VALUE), REFUSED);
         due("9 nothing made", rig.x.octet(77), rig.out()[77]);
         due("9 all", rig.x.spend(0, 1, 0, 999999, 1), 51);
+        due("9 one output", Model.readTx(rig.out()).outs.size(), 1);
         due("9 all but one", rig.x.spend(0, 1, 0, 999999, 0), 62);
         due("9 nothing", rig.x.spend(0, 1, 0, 0, 0), 62);
         due("9 two", rig.x.spend(7, 2, 0x01020304, 300, 7), 96);

@@ -13,6 +13,8 @@ public final class ScriptsTest {
         elements();
         stack();
         truthAndNumbers();
+        depths();
+        oneAfterAnother();
         hashes();
         signatures();
         heights();
@@ -155,6 +157,38 @@ public final class ScriptsTest {
         bad(ONE, AND);
     }
 
+    /** What is below what an op takes stays, and nothing else does. */
+    private static void depths() {
+        int[][] ops = {{DUP, DROP, DROP}, {DROP}, {0, SWAP, DROP, DROP}, {0, OVER, DROP, DROP, DROP}, {SIZE, DROP, DROP},
+            {0, EQUAL, DROP}, {VERIFY}, {NOT, DROP}, {ONE, ADD, DROP}, {ONE, SUB, DROP}, {ONE, LESS, DROP},
+            {ONE, AND, DROP}, {SHA, DROP}, {HASH, DROP}, {ONE, SIGNED, DROP}, {AFTER}, {IF, END}, {UNLESS, END},
+            {ONE, DROP, DROP}, {0, 0, MANY, DROP, DROP}};
+        for (int[] op : ops) {
+            good(with(with(new int[] {1, 9, ONE}, op), 1, 9, EQUAL));
+            bad(with(with(new int[] {0, ONE}, op)));
+        }
+        // What was there before leaves no trace in a shorter element.
+        bad(1, 5, DROP, 0);
+        good(1, 5, DROP, 0, NOT);
+        bad(2, 5, 5, DROP, 1, 0);
+    }
+
+    /** A script that fails leaves nothing behind for the next one. */
+    private static void oneAfterAnother() {
+        int[][] failing = {{0, IF}, {ONE, IF, BAD}, {ONE, ONE, IF}, times(25, ONE), {0, IF, 5}};
+        for (int[] key : failing) {
+            Rig rig = new Rig();
+            Model.Tx first = Rig.first(1, 50, new byte[0]);
+            rig.block(Rig.mined(Rig.ZEROS, 10, 32768, first));
+            rig.growTip(6);
+            Model.Tx tx = Rig.payment(47, new byte[0], Rig.coin(first, 0));
+            Rig.due("fails", rig.pay(Rig.keyed(tx, bytes(key, new byte[32])).bytes), Model.RULE);
+            Rig.due("empty", rig.pay(Rig.keyed(tx).bytes), Model.RULE);
+            Rig.due("fails", rig.pay(Rig.keyed(tx, bytes(key, new byte[32])).bytes), Model.RULE);
+            Rig.due("next", rig.pay(Rig.keyed(tx, Model.bytes(102)).bytes), 3);
+        }
+    }
+
     private static void hashes() {
         byte[] sha = Model.sha(Model.bytes(1, 2, 3));
         byte[] hash = Model.hash(Model.bytes(1, 2, 3));
@@ -238,6 +272,7 @@ public final class ScriptsTest {
         good(ONE, IF, 1, 2, ELSE, BAD, ELSE, ONE, EQUAL, NOT, END);
         good(0, IF, BAD, ELSE, ONE, ELSE, BAD, END);
         bad(IF, END);
+        bad(IF, ONE);
         bad(UNLESS, END, ONE);
         bad(ONE, ELSE);
         bad(ONE, END);
