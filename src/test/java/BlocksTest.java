@@ -116,7 +116,8 @@ public final class BlocksTest {
         due("same twice", new Rig().block(raw(2, first, first)), FORM);
         due("same as an earlier one", new Rig().block(raw(3, first, second.bytes, first)), FORM);
         // Places: lock, inputs, index, size of the key script, outputs, value, size of the lock script.
-        int[][] wrong = {{0, 128}, {4, 9}, {4, 255}, {37, 8}, {38, 81}, {39, 0}, {39, 9}, {40, 128}, {44, 81}};
+        int[][] wrong = {{0, 128}, {4, 9}, {4, 255}, {37, 8}, {37, 255}, {38, 81}, {38, 255}, {39, 0}, {39, 9},
+            {39, 255}, {40, 128}, {44, 81}, {44, 255}};
         for (int[] change : wrong) {
             byte[] bytes = Arrays.copyOf(second.bytes, second.bytes.length + 900);
             bytes[change[0]] = (byte) change[1];
@@ -128,6 +129,8 @@ public final class BlocksTest {
                 }
             }
         }
+        byte[] inputs = {0, 0, 0, 0, -1, 1, 0, 0, 0, 0, 0};
+        due("inputs 255", new Rig().block(raw(2, first, inputs)), FORM);
         byte[][] many = new byte[33][];
         for (int i = 0; i < 33; i++) {
             many[i] = Rig.first(i, i, NO_LOCK).bytes;

@@ -171,11 +171,15 @@ public final class PromisesTest {
         due("6 huge", rig.pay(Rig.keyed(huge, open()).bytes), RULE);
         // Every field at its limit and beyond.
         Model.Tx right = Rig.keyed(Rig.payment(1, lock, Rig.coin(first, 1)), open());
-        int[][] wrong = {{0, 128}, {4, 9}, {37, 8}, {38, 81}, {40, 0}, {40, 9}, {41, 128}, {45, 81}, {45, 1}};
+        int[][] wrong = {{0, 128}, {4, 9}, {37, 8}, {37, 255}, {38, 81}, {38, 255}, {40, 0}, {40, 9}, {40, 255},
+            {41, 128}, {45, 81}, {45, 255}, {45, 1}};
         for (int[] change : wrong) {
             byte[] bytes = right.bytes.clone();
             bytes[change[0]] = (byte) change[1];
             due("6 byte " + change[0] + " is " + change[1], rig.pay(bytes), FORM);
+        }
+        for (int inputs = 128; inputs <= 255; inputs++) {
+            due("6 inputs " + inputs, rig.pay(Model.bytes(0, 0, 0, 0, inputs, 1, 0, 0, 0, 0, 0)), FORM);
         }
     }
 
