@@ -19,9 +19,6 @@ public final class BlocksTest {
         held();
         heldAreGone();
         heldFull();
-        storedFull();
-        storedBytesFull();
-        heldWithoutRoom();
         arrivals();
         mostWork();
         soundFirst();
@@ -41,19 +38,6 @@ public final class BlocksTest {
         return Rig.first(height, 5, NO_LOCK);
     }
 
-    /** A block of the payments as they are, right or wrong, with their root, and mined. */
-    private static byte[] raw(int count, byte[]... payments) {
-        List<Model.Tx> txs = new ArrayList<>();
-        for (byte[] bytes : payments) {
-            Model.Tx tx = new Model.Tx();
-            tx.bytes = bytes;
-            txs.add(tx);
-        }
-        byte[] block = Model.blockBytes(new Model.Node(), 10, 32768, 0, txs);
-        block[76] = (byte) count;
-        return Rig.mine(block);
-    }
-
     private static void form() {
         byte[] right = Rig.mined(Rig.ZEROS, 10, 32768, plain(1));
         due("empty", new Rig().block(new byte[0]), FORM);
@@ -62,7 +46,7 @@ public final class BlocksTest {
         }
         due("a byte more", new Rig().block(Arrays.copyOf(right, right.length + 1)), FORM);
         due("right", new Rig().block(right), 1);
-        due("header alone", new Rig().block(raw(0, plain(1).bytes)), FORM);
+        due("header alone", new Rig().block(Rig.raw(0, plain(1).bytes)), FORM);
         for (int time : new int[] {-1, Integer.MIN_VALUE}) {
             due("time " + time, new Rig().block(Rig.mined(Rig.ZEROS, time, 32768, plain(1))), FORM);
         }
@@ -110,11 +94,11 @@ public final class BlocksTest {
     private static void formOfPayments() {
         byte[] first = plain(1).bytes;
         Model.Tx second = Rig.payment(1, NO_LOCK, "ab".repeat(32) + "07");
-        due("two", new Rig().block(raw(2, first, second.bytes)), 1);
-        due("count above", new Rig().block(raw(3, first, second.bytes)), FORM);
-        due("count below", new Rig().block(raw(1, first, second.bytes)), FORM);
-        due("same twice", new Rig().block(raw(2, first, first)), FORM);
-        due("same as an earlier one", new Rig().block(raw(3, first, second.bytes, first)), FORM);
+        due("two", new Rig().block(Rig.raw(2, first, second.bytes)), 1);
+        due("count above", new Rig().block(Rig.raw(3, first, second.bytes)), FORM);
+        due("count below", new Rig().block(Rig.raw(1, first, second.bytes)), FORM);
+        due("same twice", new Rig().block(Rig.raw(2, first, first)), FORM);
+        due("same as an earlier one", new Rig().block(Rig.raw(3, first, second.bytes, first)), FORM);
         // Places: lock, inputs, index, size of the key script, outputs, value, size of the lock script.
         int[][] wrong = {{0, 128}, {4, 9}, {4, 255}, {37, 8}, {37, 255}, {38, 81}, {38, 255}, {39, 0}, {39, 9},
             {39, 255}, {40, 128}, {44, 81}, {44, 255}};
@@ -125,18 +109,18 @@ public final class BlocksTest {
             for (int size = 40; size <= bytes.length; size++) {
                 if (size == 45 || size == 126 || size % 97 == 0) {
                     due("byte " + change[0] + " is " + change[1],
-                            new Rig().block(raw(2, first, Arrays.copyOf(bytes, size))), FORM);
+                            new Rig().block(Rig.raw(2, first, Arrays.copyOf(bytes, size))), FORM);
                 }
             }
         }
         byte[] inputs = {0, 0, 0, 0, -1, 1, 0, 0, 0, 0, 0};
-        due("inputs 255", new Rig().block(raw(2, first, inputs)), FORM);
+        due("inputs 255", new Rig().block(Rig.raw(2, first, inputs)), FORM);
         byte[][] many = new byte[33][];
         for (int i = 0; i < 33; i++) {
             many[i] = Rig.first(i, i, NO_LOCK).bytes;
         }
-        due("of 33", new Rig().block(raw(33, many)), FORM);
-        due("of 32", new Rig().block(raw(32, Arrays.copyOf(many, 32))), 1);
+        due("of 33", new Rig().block(Rig.raw(33, many)), FORM);
+        due("of 32", new Rig().block(Rig.raw(32, Arrays.copyOf(many, 32))), 1);
         largest();
         cutAtTheBrim();
     }
@@ -145,7 +129,6 @@ public final class BlocksTest {
     private static void cutAtTheBrim() {
         byte[][] locks = new byte[8][80];
         byte[] header = Rig.mined(Rig.ZEROS, 10, 32768, plain(1));
-        Rig rig = new Rig();
         for (int shift = 0; shift <= 240; shift++) {
             byte[] all = Arrays.copyOf(header, 77);
             all[76] = 32;
@@ -156,7 +139,7 @@ public final class BlocksTest {
                 String[] coins = {"ab".repeat(32) + "01", "ab".repeat(32) + "02"};
                 all = Model.join(all, Rig.payment(1, new byte[9], coins).bytes);
             }
-            due("cut, moved by " + shift, rig.block(Arrays.copyOf(all, 4096)), FORM);
+            due("cut, moved by " + shift, new Rig().block(Arrays.copyOf(all, 4096)), FORM);
         }
     }
 
@@ -170,7 +153,7 @@ public final class BlocksTest {
         String[] coins = new String[8];
         Arrays.fill(coins, "cd".repeat(32) + "07");
         Model.Tx wide = Rig.keyed(Rig.payment(2147483647, full, coins), full);
-        due("eight inputs of 80", new Rig().block(raw(2, plain(1).bytes, wide.bytes)), 1);
+        due("eight inputs of 80", new Rig().block(Rig.raw(2, plain(1).bytes, wide.bytes)), 1);
         byte[] whole = whole();
         due("whole tape", whole.length, 4096);
         Rig other = new Rig();
@@ -193,7 +176,7 @@ public final class BlocksTest {
         int missing = 4096 - size - Rig.first(9, 1, rest).bytes.length;
         rest[6] = new byte[missing];
         payments[6] = Rig.first(9, 1, rest).bytes;
-        return raw(7, payments);
+        return Rig.raw(7, payments);
     }
 
     private static void roots() {
@@ -203,7 +186,7 @@ public final class BlocksTest {
                 payments[i] = Rig.first(i + 1, i, NO_LOCK).bytes;
             }
             Rig rig = new Rig();
-            due("of " + n, rig.block(raw(n, payments)), 1);
+            due("of " + n, rig.block(Rig.raw(n, payments)), 1);
             due("has " + n, rig.x.stored(1, 4), n);
         }
     }
@@ -388,113 +371,6 @@ public final class BlocksTest {
         due("tip is the first held", rig.x.tip(1), 3);
     }
 
-    /** 255 blocks of two calls each, so that all is done in the 512 calls of one object. */
-    private static void storedFull() {
-        ChainLedger x = fill();
-        due("no such block", x.stored(256, 0), -2);
-        due("height", x.tip(0), 255);
-        x = fill();
-        due("draft", x.draft(200, 1000000, 1, false), 94);
-        due("no such block to draft on", x.draft(256, 1000000, 1, false), -1);
-        x = fill();
-        x.draft(-1, 1000000, 1, false);
-        due("one too many", x.send(), FULL);
-        x = fill();
-        due("coins", x.count(2), 255);
-        due("stored", x.count(0), 256);
-    }
-
-    private static ChainLedger fill() {
-        ChainLedger x = new ChainLedger();
-        Model.Node parent = new Model.Node();
-        for (int i = 1; i <= 255; i++) {
-            int height = parent.height + 1;
-            int time = parent.time + 40;
-            Model.Tx first = Model.firstTx(height, Model.reward(height), Model.keyLock(1));
-            Model.Node next = null;
-            while (next == null) {
-                time++;
-                next = Model.readBlock(Model.blockBytes(parent, time, Model.due(parent), 0, List.of(first)));
-            }
-            next.parent = parent;
-            next.height = height;
-            x.draft(-1, time, 1, true);
-            due("stored " + i, x.send(), i);
-            parent = next;
-        }
-        return x;
-    }
-
-    private static void storedBytesFull() {
-        Rig rig = new Rig();
-        byte[] whole = whole();
-        for (int i = 1; i <= 31; i++) {
-            due("whole " + i, rig.block(whole), i);
-            Model.setNonce(whole, Model.nonce(whole) + 1);
-            Rig.mine(whole);
-        }
-        int size = 77 + plain(1).bytes.length;
-        due("small", rig.block(Rig.mined(Rig.ZEROS, 77, 32768, plain(1))), 32);
-        due("bytes", rig.x.count(5), 31 * 4096 + size);
-        due("no room", rig.block(whole), FULL);
-        due("no matter if known", rig.block(Rig.mined(Rig.ZEROS, 77, 32768, plain(1))), KNOWN);
-        due("rule before full", rig.block(ofSize(4096 - size + 1, 0)), RULE);
-        due("a byte more", rig.block(ofSize(4096 - size + 1, 10)), FULL);
-        due("to the brim", rig.block(ofSize(4096 - size, 10)), 33);
-        due("brim", rig.x.count(5), 131072);
-        due("nothing more", rig.block(Rig.mined(Rig.ZEROS, 78, 32768, plain(1))), FULL);
-        due("but held", rig.block(Rig.mined("77".repeat(32), 78, 32768, plain(1))), 1000);
-    }
-
-    /** A block on block 0 with so many bytes. */
-    private static byte[] ofSize(int size, int time) {
-        List<Model.Tx> txs = new ArrayList<>();
-        txs.add(plain(1));
-        int missing = size - 77 - plain(1).bytes.length;
-        for (int i = 0; missing > 0; i++) {
-            byte[][] locks = new byte[8][80];
-            int full = Rig.first(i, 1, locks).bytes.length;
-            if (missing < full) {
-                int n = Math.min(8, (missing - 6) / 5);
-                locks = new byte[n][];
-                int left = missing - 6 - 5 * n;
-                for (int k = 0; k < n; k++) {
-                    locks[k] = new byte[Math.min(80, left)];
-                    left -= locks[k].length;
-                }
-            } else if (missing - full < 11 && missing > full) {
-                locks[7] = new byte[69];
-            }
-            txs.add(Rig.first(i, 1, locks));
-            missing -= txs.get(txs.size() - 1).bytes.length;
-        }
-        byte[] block = Rig.mined(Rig.ZEROS, time, 32768, txs.toArray(new Model.Tx[0]));
-        due("size", block.length, size);
-        return block;
-    }
-
-    private static void heldWithoutRoom() {
-        Rig rig = new Rig();
-        byte[] whole = whole();
-        for (int i = 1; i <= 31; i++) {
-            due("whole " + i, rig.block(whole), i);
-            Model.setNonce(whole, Model.nonce(whole) + 1);
-            Rig.mine(whole);
-        }
-        byte[] one = Rig.mined(Rig.ZEROS, 10, 32768, plain(1));
-        byte[] large = whole.clone();
-        System.arraycopy(Model.unhex(Rig.id(one)), 0, large, 0, 32);
-        ByteBuffer.wrap(large).putInt(64, 20);
-        byte[] small = Rig.mined(Rig.id(one), 20, 32768, plain(2));
-        due("large is held", rig.block(Rig.mine(large)), 1000);
-        due("small is held", rig.block(small), 1000);
-        due("one", rig.block(one), 32);
-        due("large is gone", rig.x.count(1), 0);
-        due("small is stored", rig.x.count(0), 34);
-        due("tip", rig.x.tip(1), 33);
-        due("large again", rig.block(large), FULL);
-    }
-
     private static void arrivals() {
         byte[] one = Rig.mined(Rig.ZEROS, 10, 32768, plain(1));
         byte[] two = Rig.mined(Rig.id(one), 20, 32768, plain(2));
@@ -559,54 +435,30 @@ public final class BlocksTest {
         }
     }
 
-    /** Whether the payments may stand, in this order, at height 8 on six coins of 50 of the first block. */
-    private static boolean stand(Model.Tx first, int reward, Model.Tx... payments) {
-        Rig rig = new Rig();
-        byte[] one = Rig.mined(Rig.ZEROS, 10, 32768, first);
-        due("one", rig.block(one), 1);
-        rig.growTip(6);
-        rig.x.draft(-1, 80, 1, false);
-        byte[] draft = rig.out();
-        Model.Tx[] all = new Model.Tx[payments.length + 1];
-        all[0] = Rig.first(8, reward, NO_LOCK);
-        System.arraycopy(payments, 0, all, 1, payments.length);
-        byte[] block = Rig.mined(Model.hex(Arrays.copyOf(draft, 32)), 80, leadingTarget(draft), all);
-        long coins = rig.x.count(2);
-        long sum = rig.x.count(3);
-        due("stored", rig.block(block), 8);
-        boolean sound = rig.x.tip(1) == 8;
-        if (!sound) {
-            due("tip", rig.x.tip(1), 7);
-            due("coins stay", rig.x.count(2), coins);
-            due("sum stays", rig.x.count(3), sum);
-        }
-        return sound;
-    }
-
     private static void soundOthers() {
         Model.Tx first = Rig.first(1, 50, NO_LOCK, NO_LOCK, NO_LOCK, NO_LOCK, Model.keyLock(3), Model.bytes(1, 8, 96));
         Model.Tx a = Rig.keyed(Rig.payment(40, NO_LOCK, Rig.coin(first, 0)), OPEN);
         Model.Tx b = Rig.keyed(Rig.payment(39, NO_LOCK, Rig.coin(a, 0)), OPEN);
-        due("one", stand(first, 1000010, a) ? 1 : 0, 1);
-        due("a more", stand(first, 1000011, a) ? 1 : 0, 0);
-        due("on it", stand(first, 1000011, a, b) ? 1 : 0, 1);
-        due("before it", stand(first, 5, b, a) ? 1 : 0, 0);
+        due("one", Rig.stand(first, 1000010, a) ? 1 : 0, 1);
+        due("a more", Rig.stand(first, 1000011, a) ? 1 : 0, 0);
+        due("on it", Rig.stand(first, 1000011, a, b) ? 1 : 0, 1);
+        due("before it", Rig.stand(first, 5, b, a) ? 1 : 0, 0);
         Model.Tx twice = Rig.keyed(Rig.payment(38, NO_LOCK, Rig.coin(first, 0)), OPEN);
-        due("spent twice", stand(first, 5, a, twice) ? 1 : 0, 0);
+        due("spent twice", Rig.stand(first, 5, a, twice) ? 1 : 0, 0);
         Model.Tx same = Rig.keyed(Rig.payment(1, NO_LOCK, Rig.coin(first, 0), Rig.coin(first, 0)), OPEN);
-        due("named twice", stand(first, 5, same) ? 1 : 0, 0);
+        due("named twice", Rig.stand(first, 5, same) ? 1 : 0, 0);
         Model.Tx none = Rig.keyed(Rig.payment(1, NO_LOCK, Rig.coin(first, 6)), OPEN);
-        due("no such coin", stand(first, 5, none) ? 1 : 0, 0);
+        due("no such coin", Rig.stand(first, 5, none) ? 1 : 0, 0);
         Model.Tx more = Rig.keyed(Rig.payment(101, NO_LOCK, Rig.coin(first, 0), Rig.coin(first, 1)), OPEN);
-        due("more out than in", stand(first, 5, more) ? 1 : 0, 0);
+        due("more out than in", Rig.stand(first, 5, more) ? 1 : 0, 0);
         Model.Tx all = Rig.keyed(Rig.payment(100, NO_LOCK, Rig.coin(first, 0), Rig.coin(first, 1)), OPEN);
-        due("as much out as in", stand(first, 1000000, all) ? 1 : 0, 1);
+        due("as much out as in", Rig.stand(first, 1000000, all) ? 1 : 0, 1);
         for (int lock = 0; lock <= 9; lock++) {
             Model.Tx locked = Rig.payment(40, NO_LOCK, Rig.coin(first, 0));
             locked.lock = lock;
-            due("lock " + lock, stand(first, 5, Rig.keyed(locked, OPEN)) ? 1 : 0, lock <= 8 ? 1 : 0);
+            due("lock " + lock, Rig.stand(first, 5, Rig.keyed(locked, OPEN)) ? 1 : 0, lock <= 8 ? 1 : 0);
         }
-        due("fault behind", stand(first, 5, a, none) ? 1 : 0, 0);
+        due("fault behind", Rig.stand(first, 5, a, none) ? 1 : 0, 0);
         // A block may have longer payments than the pool.
         Model.Tx wide = Rig.payment(10, new byte[80], Rig.coin(first, 0), Rig.coin(first, 1), Rig.coin(first, 2),
                 Rig.coin(first, 3));
@@ -615,22 +467,22 @@ public final class BlocksTest {
         }
         Rig.keyed(wide, Model.join(Model.bytes(75), new byte[75], OPEN));
         due("wide", wide.bytes.length > 1000 ? 1 : 0, 1);
-        due("wide one", stand(first, 5, wide) ? 1 : 0, 1);
+        due("wide one", Rig.stand(first, 5, wide) ? 1 : 0, 1);
     }
 
     private static void soundScripts() {
         Model.Tx first = Rig.first(1, 50, Model.keyLock(3), Model.bytes(1, 8, 96, 102), Model.bytes(1, 9, 96, 102));
-        due("signed", stand(first, 5, Rig.signed(Rig.payment(1, NO_LOCK, Rig.coin(first, 0)), 3)) ? 1 : 0, 1);
-        due("by another", stand(first, 5, Rig.signed(Rig.payment(1, NO_LOCK, Rig.coin(first, 0)), 4)) ? 1 : 0, 0);
-        due("by none", stand(first, 5, Rig.payment(1, NO_LOCK, Rig.coin(first, 0))) ? 1 : 0, 0);
+        due("signed", Rig.stand(first, 5, Rig.signed(Rig.payment(1, NO_LOCK, Rig.coin(first, 0)), 3)) ? 1 : 0, 1);
+        due("by another", Rig.stand(first, 5, Rig.signed(Rig.payment(1, NO_LOCK, Rig.coin(first, 0)), 4)) ? 1 : 0, 0);
+        due("by none", Rig.stand(first, 5, Rig.payment(1, NO_LOCK, Rig.coin(first, 0))) ? 1 : 0, 0);
         Model.Tx changed = Rig.signed(Rig.payment(1, NO_LOCK, Rig.coin(first, 0)), 3);
         changed.outs.set(0, Rig.output(2, NO_LOCK));
         changed.bytes = changed.write();
-        due("changed since", stand(first, 5, changed) ? 1 : 0, 0);
-        due("from 8 on", stand(first, 5, Rig.payment(1, NO_LOCK, Rig.coin(first, 1))) ? 1 : 0, 1);
-        due("from 9 on", stand(first, 5, Rig.payment(1, NO_LOCK, Rig.coin(first, 2))) ? 1 : 0, 0);
+        due("changed since", Rig.stand(first, 5, changed) ? 1 : 0, 0);
+        due("from 8 on", Rig.stand(first, 5, Rig.payment(1, NO_LOCK, Rig.coin(first, 1))) ? 1 : 0, 1);
+        due("from 9 on", Rig.stand(first, 5, Rig.payment(1, NO_LOCK, Rig.coin(first, 2))) ? 1 : 0, 0);
         Model.Tx both = Rig.payment(1, NO_LOCK, Rig.coin(first, 1), Rig.coin(first, 2));
-        due("one of two", stand(first, 5, both) ? 1 : 0, 0);
+        due("one of two", Rig.stand(first, 5, both) ? 1 : 0, 0);
     }
 
     /** Coins of a first payment of height g may go from g + 6 on; others at once. */
@@ -655,24 +507,27 @@ public final class BlocksTest {
         }
     }
 
+    /** Around each height where the reward is halved; the heights between are grown over. */
     private static void rewards() {
         Rig rig = new Rig();
         long sum = 0;
-        for (int h = 1; h <= 50; h++) {
+        for (int h = 1; h <= 33; h++) {
             int reward = 1000000 >> h / 16;
-            rig.x.draft(-1, h * 10, 1, false);
-            byte[] draft = rig.out();
-            String parent = Model.hex(Arrays.copyOf(draft, 32));
+            sum += reward;
+            if ((h + 1) % 16 > 2) {
+                rig.growTip(1);
+                continue;
+            }
+            int next = (int) rig.x.count(0);
             Model.Tx split = Rig.first(h, reward - 1, NO_LOCK);
             split.outs.add(Rig.output(2, NO_LOCK));
             split.bytes = split.write();
-            due("more", rig.block(Rig.mined(parent, h * 10, leadingTarget(draft), split)), 2 * h - 1);
+            due("more", rig.block(rig.on(-1, h * 10, split)), next);
             due("not followed", rig.x.tip(0), h - 1);
             split.outs.set(1, Rig.output(1, NO_LOCK));
             split.bytes = split.write();
-            due("just that", rig.block(Rig.mined(parent, h * 10, leadingTarget(draft), split)), 2 * h);
+            due("just that", rig.block(rig.on(-1, h * 10, split)), next + 1);
             due("followed", rig.x.tip(0), h);
-            sum += reward;
             due("sum", rig.x.count(3), sum);
         }
     }

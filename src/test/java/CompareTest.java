@@ -2,24 +2,25 @@ import java.util.ArrayList;
 import java.util.List;
 import java.util.Random;
 
-/** Long runs of calls, the same every time, whose answers must be those of the model. */
+/** Runs of up to 512 calls, the same every time, whose answers must be those of the model. */
 public final class CompareTest {
     private static int wrong;
     private static long calls;
     private static int reorgs, unsound, pooledTwice, heldMost, accepted, tried;
 
     public static void main(String[] args) {
-        int runs = args.length > 0 ? Integer.parseInt(args[0]) : 12;
+        int runs = args.length > 0 ? Integer.parseInt(args[0]) : 40;
         int from = args.length > 1 ? Integer.parseInt(args[1]) : 0;
         for (int seed = from; seed < from + runs && wrong == 0; seed++) {
             byHand(seed);
-            inAnyOrder(new Maker(seed), "in any order " + seed, 60, 3);
-            inAnyOrder(new Maker(seed + 500000), "far out of order " + seed, 120, 30);
+            inAnyOrder(new Maker(seed), "in any order " + seed, 3);
+            Maker far = new Maker(seed + 500000);
+            far.mostPayments = 1;
+            inAnyOrder(far, "far out of order " + seed, 24);
             Maker rivals = new Maker(seed + 700000);
             rivals.rivals = true;
             rivals.faults = 1;
-            rivals.mostPayments = 8;
-            inAnyOrder(rivals, "rivals " + seed, 80, 4);
+            inAnyOrder(rivals, "rivals " + seed, 4);
             scripts(seed);
         }
         anyArguments();
@@ -41,9 +42,9 @@ public final class CompareTest {
     private static void byHand(int seed) {
         Random random = new Random(seed);
         Twin twin = new Twin("by hand " + seed);
-        for (int i = 0; i < 700 && twin.wrong == 0; i++) {
+        for (int i = 0; twin.ledger.left() > 60 && twin.wrong == 0; i++) {
             someCalls(twin, random);
-            if (i % 50 == 0) {
+            if (i % 30 == 0) {
                 twin.compareAll();
             }
         }
@@ -105,46 +106,54 @@ public final class CompareTest {
         }
     }
 
-    /** Arguments far out, on a new object and on used ones. */
+    /** Arguments far out, on new objects and on used ones. */
     private static void anyArguments() {
         int[] some = {Integer.MIN_VALUE, -1001, -3, -2, -1, 0, 1, 2, 5, 6, 7, 8, 9, 255, 256, 2000, 2001, 4096,
             1000000, Integer.MAX_VALUE - 1, Integer.MAX_VALUE};
         for (int stage = 0; stage < 3; stage++) {
-            Twin twin = new Twin("any arguments, stage " + stage);
-            for (int i = 0; i < 9 * stage; i++) {
-                twin.draft(-1, 10 * i + 10, 1, true);
-                twin.mine(2000);
-                twin.send();
-            }
             for (int a : some) {
-                twin.end(a);
-                twin.feed(a, a, a, a, a);
-                twin.script(a);
-                twin.octet(a);
-                twin.tip(a);
-                twin.count(a);
-                twin.sign(a, a);
-                twin.mine(a);
                 for (int b : some) {
-                    twin.alter(a, b);
-                    twin.stored(a, b);
-                    twin.coin(a, b);
-                    twin.pooled(a, b);
-                    twin.draft(a, b, a, true);
-                    for (int c : some) {
-                        twin.spend(stage, 1, a, b, c);
-                        twin.spend(a, b, c, c, c);
-                        twin.spend(a, 2, b, 3, c);
+                    Twin twin = new Twin("any arguments, stage " + stage + ", " + a + ", " + b);
+                    for (int i = 0; i < 9 * stage; i++) {
+                        twin.draft(-1, 10 * i + 10, 1, true);
+                        twin.mine(2000);
+                        twin.send();
                     }
-                    twin.sign(a, b);
-                    twin.script(b);
+                    withArguments(twin, a, b, some);
+                    wrong += twin.wrong;
+                    calls += twin.calls;
                 }
-                twin.send();
-                twin.back();
-                twin.pay();
             }
-            close(twin);
         }
+    }
+
+    private static void withArguments(Twin twin, int a, int b, int[] some) {
+        twin.feed(a, b, a, b, a);
+        twin.alter(a, b);
+        twin.octet(a);
+        twin.tip(a);
+        twin.count(a);
+        twin.stored(a, b);
+        twin.coin(a, b);
+        twin.pooled(a, b);
+        twin.sign(a, b);
+        twin.script(a);
+        twin.mine(a);
+        twin.draft(a, b, a, true);
+        twin.mine(b);
+        for (int c : some) {
+            twin.spend(0, 1, a, b, c);
+            twin.sign(c, a);
+            twin.spend(a, b, c, c, c);
+            twin.spend(a, 2, b, 3, c);
+        }
+        twin.sign(a, b);
+        twin.script(b);
+        twin.end(a);
+        twin.send();
+        twin.back();
+        twin.pay();
+        twin.compareSums();
     }
 
     private static void spendSome(Twin twin, Random random, int coins) {
@@ -172,33 +181,22 @@ public final class CompareTest {
         twin.send();
     }
 
-    /** Blocks and payments of many branches, out of order, some with faults. */
-    private static void inAnyOrder(Maker maker, String name, int blocks, int window) {
+    /** Blocks and payments of many branches, out of order, some with faults, as many as one object may get. */
+    private static void inAnyOrder(Maker maker, String name, int window) {
         Twin twin = new Twin(name);
         List<byte[]> waiting = new ArrayList<>();
-        int made = 0;
-        while ((made < blocks || !waiting.isEmpty()) && twin.wrong == 0) {
-            if (made < blocks && waiting.size() < window) {
+        while (twin.wrong == 0) {
+            while (waiting.size() < window) {
                 waiting.add(maker.someBlock(maker.someParent()));
-                made++;
-                continue;
             }
             byte[] next = waiting.remove(maker.below(waiting.size()));
-            paySome(maker, twin, next);
-            Model.Node former = twin.model.tip;
-            int pooled = twin.model.pool.size();
-            int answer = twin.giveBlock(next);
-            reorgs += Model.leadsTo(former, twin.model.tip) ? 0 : 1;
-            pooledTwice += twin.model.pool.size() > pooled ? 1 : 0;
-            heldMost = Math.max(heldMost, twin.model.held.size());
-            unsound += answer > 0 && answer < 1000 && twin.model.stored.get(answer).coins == null ? 1 : 0;
-            if (answer == Model.FULL && maker.chance(70)) {
-                waiting.add(next);
+            if (maker.chance(50)) {
+                paySome(maker, twin, next);
             }
-            if (maker.chance(10)) {
-                twin.giveBlock(next);
+            if (!twin.canTake(next)) {
+                break;
             }
-            twin.compareSums();
+            give(maker, twin, next, waiting);
             if (maker.chance(10)) {
                 twin.compareAll();
             }
@@ -206,25 +204,39 @@ public final class CompareTest {
         close(twin);
     }
 
+    private static void give(Maker maker, Twin twin, byte[] next, List<byte[]> waiting) {
+        Model.Node former = twin.model.tip;
+        int pooled = twin.model.pool.size();
+        int answer = twin.giveBlock(next);
+        reorgs += Model.leadsTo(former, twin.model.tip) ? 0 : 1;
+        pooledTwice += twin.model.pool.size() > pooled ? 1 : 0;
+        heldMost = Math.max(heldMost, twin.model.held.size());
+        unsound += answer > 0 && answer < 1000 && twin.model.stored.get(answer).coins == null ? 1 : 0;
+        if (answer == Model.FULL || maker.chance(5)) {
+            waiting.add(next);
+        }
+        twin.compareSums();
+    }
+
     private static void paySome(Maker maker, Twin twin, byte[] next) {
         Model.Node node = Model.readBlock(next);
         if (node != null && maker.chance(40)) {
             for (Model.Tx tx : node.txs) {
-                twin.givePay(tx.bytes);
+                if (twin.canTake(tx.bytes)) {
+                    twin.givePay(tx.bytes);
+                }
             }
         }
-        for (int i = maker.below(3); i > 0; i--) {
-            java.util.TreeMap<String, Model.CoinAt> coins = new java.util.TreeMap<>(twin.model.tip.coins);
-            int height = twin.model.tip.height + 1;
-            for (Model.Entry e : twin.model.pool) {
-                Model.apply(e.tx, height, coins);
-            }
-            Model.Tx tx = maker.somePayment(coins, height);
-            if (tx != null) {
-                twin.givePay(tx.bytes);
-            }
+        java.util.TreeMap<String, Model.CoinAt> coins = new java.util.TreeMap<>(twin.model.tip.coins);
+        int height = twin.model.tip.height + 1;
+        for (Model.Entry e : twin.model.pool) {
+            Model.apply(e.tx, height, coins);
         }
-        if (maker.chance(20)) {
+        Model.Tx tx = maker.somePayment(coins, height);
+        if (tx != null && twin.canTake(tx.bytes)) {
+            twin.givePay(tx.bytes);
+        }
+        if (maker.chance(20) && twin.ledger.left() > 20) {
             twin.draft(-1, Model.median(twin.model.tip) + 1, 1, true);
             twin.compareSums();
         }
@@ -248,7 +260,7 @@ public final class CompareTest {
             List<Model.Tx> txs = List.of(first);
             twin.giveBlock(maker.mined(parent, Model.median(parent) + 1 + maker.below(20), Model.due(parent), txs));
         }
-        for (int i = 0; i < 400 && twin.wrong == 0; i++) {
+        while (twin.wrong == 0) {
             List<String> names = new ArrayList<>(twin.model.tip.coins.keySet());
             String name = names.get(maker.below(names.size()));
             Model.CoinAt coin = twin.model.tip.coins.get(name);
@@ -262,8 +274,12 @@ public final class CompareTest {
             tx.ins.add(in);
             tx.outs.add(coin.out);
             in.key = keyScript(maker, tx.signHash());
+            byte[] bytes = tx.write();
+            if (!twin.canTake(bytes)) {
+                break;
+            }
             tried++;
-            accepted += twin.givePay(tx.write()) >= 0 ? 1 : 0;
+            accepted += twin.givePay(bytes) >= 0 ? 1 : 0;
         }
         close(twin);
     }

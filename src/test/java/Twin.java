@@ -2,7 +2,7 @@ import java.util.Arrays;
 
 /** The class and the model side by side: each call goes to both, and their answers must be the same. */
 final class Twin {
-    final ChainLedger ledger = new ChainLedger();
+    final Ledger ledger = new Ledger();
     final Model model = new Model();
     final String name;
     int calls;
@@ -109,8 +109,12 @@ final class Twin {
         end(before + bytes.length);
     }
 
+    /** Whether so many bytes can still come, with some calls to spare. */
+    boolean canTake(byte[] bytes) {
+        return ledger.left() > bytes.length / 20 + 20;
+    }
+
     int giveBlock(byte[] bytes) {
-        end(0);
         if (bytes.length > 4080) {
             // The last feed would not fit; the bytes of such a block are not told here.
             throw new IllegalArgumentException("too long to feed");
@@ -120,7 +124,6 @@ final class Twin {
     }
 
     int givePay(byte[] bytes) {
-        end(0);
         feedAll(bytes);
         return pay();
     }
