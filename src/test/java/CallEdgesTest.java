@@ -44,6 +44,7 @@ public final class CallEdgesTest {
         stored();
         coin();
         coinOrder();
+        coinOfOthers();
         balance();
         pooled();
         octet();
@@ -376,6 +377,21 @@ public final class CallEdgesTest {
                 due("what is missing", rig.x.mine(2000), Math.max(0, needed - n));
             }
         }
+        // An id that begins with the target itself is not below it; with one less it is.
+        due("at the target", growsFrom(32768) > 0 ? 1 : 0, 1);
+        due("just below it", growsFrom(32767), 0);
+    }
+
+    /** How often a draft on block 0 grows whose id begins with these two bytes. */
+    private static int growsFrom(int leading) {
+        Model.Tx first = Model.firstTx(1, 1000000, Model.keyLock(1));
+        int time = 1;
+        while (Model.leading(Model.blockBytes(new Model.Node(), time, 32768, 0, java.util.List.of(first))) != leading) {
+            time++;
+        }
+        Rig rig = new Rig();
+        rig.x.draft(0, time, 1, false);
+        return rig.x.mine(2000);
     }
 
     private static void mineOnlyDrafts() {
@@ -738,6 +754,32 @@ public final class CallEdgesTest {
         due("none behind", rig.x.coin(k, 0), NONE);
     }
 
+    private static void coinOfOthers() {
+        Rig.says("1: the HEIGHT of its BLOCK, 2: its INDEX, 3: 1 if a first TRANSACTION made it, else 0");
+        Rig rig = Rig.withCoins(fifties());
+        Model.Tx tx = Rig.payment(20, NO_LOCK, Rig.coin(fifties(), 0));
+        tx.outs.add(Rig.output(30, new byte[3]));
+        Rig.keyed(tx, OPEN);
+        due("payment", rig.pay(tx.bytes), 0);
+        due("coins", rig.x.count(2), 10);
+        due("block", rig.grow(-1, 90, 1, true), 8);
+        due("coins then", rig.x.count(2), 12);
+        int[][] want = {{20, 8, 0, 0, 0}, {30, 8, 1, 0, 3}};
+        int at = Integer.parseInt(tx.id().substring(0, 4), 16);
+        int found = 0;
+        for (int k = 0; k < 12; k++) {
+            if (rig.x.coin(k, 5) == at && found < 2) {
+                for (int what = 0; what < 5; what++) {
+                    due("output " + found + ", " + what, rig.x.coin(k, what), want[found][what]);
+                }
+                found++;
+            } else {
+                due("of a first one", rig.x.coin(k, 3), 1);
+            }
+        }
+        due("both", found, 2);
+    }
+
     private static void balance() {
         Rig.says("The VALUE of all COINS whose LOCK SCRIPT is the TAPE, which is empty then.");
         due("no coins, no tape", new Rig().x.balance(), 0);
@@ -788,6 +830,17 @@ public final class CallEdgesTest {
                 }
             }
             rig.pay(pays(50, Rig.coin(fifties(), members)).bytes);
+        }
+        Rig.says("what 0: its FEE, 1: its bytes, 2: INPUTS, 3: OUTPUTS");
+        Rig other = Rig.withCoins(fifties());
+        Model.Tx tx = Rig.payment(20, NO_LOCK, Rig.coin(fifties(), 0), Rig.coin(fifties(), 1));
+        tx.outs.add(Rig.output(30, NO_LOCK));
+        tx.outs.add(Rig.output(9, new byte[80]));
+        Rig.keyed(tx, OPEN);
+        due("payment", other.pay(tx.bytes), 41);
+        int[] want = {41, tx.bytes.length, 2, 3};
+        for (int what = 0; what <= 3; what++) {
+            due("what " + what, other.x.pooled(0, what), want[what]);
         }
     }
 

@@ -93,6 +93,12 @@ public final class ChainEdgesTest {
             rig.grow(-1, c[0] + 2, 1, false);
             due("and two of " + c[1], rig.x.tip(2), 7 * 512 + 2 * c[2]);
         }
+        // 24929 would divide 16777217, so it is all but 673.
+        Rig rig = spanning(29, 101, 133);
+        due("target of all but 673", dueTarget(rig), 24929);
+        long before = rig.x.tip(2);
+        rig.grow(-1, 1000, 1, false);
+        due("all but 673", rig.x.tip(2) - before, 672);
     }
 
     private static void heights() {
@@ -143,6 +149,11 @@ public final class ChainEdgesTest {
         // 2 3 3 4 4 4 1000.
         due("last at 4 of seven", rig.grow(-1, 4, 1, false), RULE);
         due("last at 5 of seven", rig.grow(-1, 5, 1, false), 9);
+        rig.grow(-1, 5, 1, false);
+        rig.grow(-1, 5, 1, false);
+        // 3 4 4 4 5 5 5, as 1000 is the time of the eighth.
+        due("without the eighth, at 4", rig.grow(-1, 4, 1, false), RULE);
+        due("without the eighth, at 5", rig.grow(-1, 5, 1, false), 12);
     }
 
     private static void eighthHeights() {
@@ -492,6 +503,10 @@ public final class ChainEdgesTest {
         Rig.holds("two", Rig.stand(fifties(), 5, pays(5, a, b)));
         Rig.holds("one twice", !Rig.stand(fifties(), 5, pays(5, a, a)));
         Rig.holds("the first and the last", !Rig.stand(fifties(), 5, pays(5, a, b, a)));
+        Model.Tx otherKey = pays(5, a, a);
+        otherKey.ins.get(1).key = Model.bytes(1, 1);
+        otherKey.bytes = otherKey.write();
+        Rig.holds("one twice, with other key scripts", !Rig.stand(fifties(), 5, otherKey));
         Rig.holds("in two payments", !Rig.stand(fifties(), 5, pays(5, a), pays(6, a)));
     }
 

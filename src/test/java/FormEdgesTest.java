@@ -216,6 +216,9 @@ public final class FormEdgesTest {
         byte[] none = Arrays.copyOf(Rig.raw(0, plain().bytes), 77);
         due("none", new Rig().block(none), FORM);
         due("none, but there is one", new Rig().block(Rig.raw(0, plain().bytes)), FORM);
+        Rig again = new Rig();
+        due("one", again.block(Rig.raw(1, plain().bytes)), 1);
+        due("none, with the root of the one before", again.block(none), FORM);
         for (int n : new int[] {1, 2, 31, 32, 33, 34}) {
             due("of " + n, new Rig().block(Rig.raw(n, payments(n))), n <= 32 ? 1 : FORM);
         }

@@ -21,6 +21,7 @@ public final class PoolEdgesTest {
         ripe();
         behindThoseBefore();
         staysWithTheTip();
+        changesWithTheTip();
         lowestFirst();
         anewAndFull();
         anewAndLong();
@@ -236,6 +237,26 @@ public final class PoolEdgesTest {
         due("tip with a", rig.x.tip(1), 10);
         feesAre(rig);
         due("a is spent", rig.pay(a.bytes), RULE);
+    }
+
+    /** Whether the new tip comes with block or with send, and whether it leaves blocks behind or not. */
+    private static void changesWithTheTip() {
+        Rig.says("When the TIP has changed in a call it is made anew at its end");
+        Model.Tx a = pays(49, Rig.coin(fifties(), 0));
+        Model.Tx b = pays(48, Rig.coin(fifties(), 1));
+        Rig sent = Rig.withCoins(fifties());
+        due("a", sent.pay(a.bytes), 1);
+        due("with a", sent.grow(-1, 90, 1, true), 8);
+        feesAre(sent);
+        Rig given = Rig.withCoins(fifties());
+        due("a again", given.pay(a.bytes), 1);
+        due("b", given.pay(b.bytes), 2);
+        due("given with a", given.block(given.on(-1, 90, Rig.first(8, 1, NO_LOCK), a)), 8);
+        feesAre(given, 2);
+        due("beside it", given.block(given.on(7, 91, Rig.first(8, 2, NO_LOCK))), 9);
+        feesAre(given, 2);
+        due("on that", given.block(given.on(9, 101, Rig.first(9, 2, NO_LOCK), b)), 10);
+        feesAre(given, 1);
     }
 
     private static void lowestFirst() {

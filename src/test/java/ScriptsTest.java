@@ -259,8 +259,9 @@ public final class ScriptsTest {
             bad(with(new int[] {0}, with(op, ONE)));
             good(with(new int[] {0, 0}, with(op, ONE)));
         }
+        bad(IF, ONE);
+        bad(UNLESS, ONE);
         bad(VERIFY);
-        good(ONE);
         good(with(with(times(24, 0), SIGNED), ONE));
         good(with(with(times(24, 0), MANY), ONE));
     }
