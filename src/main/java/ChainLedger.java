@@ -57,6 +57,8 @@ public final class ChainLedger {
     private final Row tape;
     private final Row out;
     private int outKind;
+    // Whether no two payments of the drafted block have the same id: else nothing makes it well formed.
+    private boolean outIdsDiffer;
     private final Sha sha;
     private final Judge judge;
     private final Chain chain;
@@ -147,7 +149,7 @@ public final class ChainLedger {
         int target = numberAt(out.bytes, TARGET_AT);
         for (int grown = 0; grown <= n; grown++) {
             sha.digest(out.bytes, 0, HEADER_BYTES, 2, fresh, 0);
-            if (leadingTwo(fresh) < target) {
+            if (outIdsDiffer && leadingTwo(fresh) < target) {
                 return grown;
             }
             if (grown < n) {
@@ -380,6 +382,7 @@ public final class ChainLedger {
     /** Puts the root of the drafted block, which has so many payments of the pool, in its place. */
     private void putRoot(int others) {
         sha.digest(out.bytes, PAYMENTS_AT, FIRST_BYTES, 2, chain.ids, 0);
+        outIdsDiffer = !waiting.hasAmong(others, chain.ids);
         for (int i = 0; i < others && i < waiting.members.size(); i++) {
             System.arraycopy(waiting.members.get(i).id, 0, chain.ids, (i + 1) * HASH_BYTES, HASH_BYTES);
         }
@@ -766,6 +769,18 @@ public final class ChainLedger {
             }
         }
 
+        void insertAll(Payment payment) {
+            for (int i = 0; i < payment.outputs; i++) {
+                insert(payment.coinOf(i));
+            }
+        }
+
+        void removeAll(Payment payment) {
+            for (int i = 0; i < payment.outputs; i++) {
+                remove(payment.coinOf(i));
+            }
+        }
+
         long total() {
             long sum = 0;
             for (int i = 0; i < list.size(); i++) {
@@ -1144,8 +1159,9 @@ public final class ChainLedger {
         boolean sound;
         boolean unsound;
         boolean onChain;
-        /** What it does to the coins, known since it was found sound. */
-        final ArrayList<Coin> made = new ArrayList<>();
+        /** How many of its payments, from the first on, may come; known since it was connected. */
+        int applied;
+        /** The coins that those take, in their order. */
         final ArrayList<Coin> spent = new ArrayList<>();
 
         /** Reads the bytes: whether they are a well formed block. ids is a row to reckon in. */
@@ -1456,7 +1472,8 @@ public final class ChainLedger {
             boolean fits = first.inputs == 0 && first.lock == next.height && isNew(first);
             long allowed = rewardAt(next.height);
             if (fits) {
-                make(next, first);
+                coins.insertAll(first);
+                next.applied = 1;
             }
             for (int i = 1; fits && i < next.paymentCount; i++) {
                 Payment payment = next.payments[i];
@@ -1464,7 +1481,8 @@ public final class ChainLedger {
                 fits = fee >= 0;
                 if (fits) {
                     take(next, payment.inputs);
-                    make(next, payment);
+                    coins.insertAll(payment);
+                    next.applied = i + 1;
                     allowed += fee;
                 }
             }
@@ -1493,31 +1511,30 @@ public final class ChainLedger {
             }
         }
 
-        private void make(Block next, Payment payment) {
-            for (int i = 0; i < payment.outputs; i++) {
-                coins.insert(payment.coinOf(i));
-                next.made.add(payment.coinOf(i));
-            }
-        }
-
-        // A coin that is made and spent in the same block stands in both lists: so both ways what
-        // comes comes before what goes.
+        // What comes and goes is repeated in its order, and taken back in the opposite one: a coin may go and
+        // another one of its name come in the same block.
         private void repeat(Block next) {
-            for (int i = 0; i < next.made.size(); i++) {
-                coins.insert(next.made.get(i));
-            }
-            for (int i = 0; i < next.spent.size(); i++) {
-                coins.remove(next.spent.get(i));
+            int taken = 0;
+            for (int i = 0; i < next.applied; i++) {
+                Payment payment = next.payments[i];
+                for (int k = 0; k < payment.inputs && taken < next.spent.size(); k++) {
+                    coins.remove(next.spent.get(taken));
+                    taken++;
+                }
+                coins.insertAll(payment);
             }
             next.onChain = true;
         }
 
         private void retract(Block last) {
-            for (int i = 0; i < last.spent.size(); i++) {
-                coins.insert(last.spent.get(i));
-            }
-            for (int i = 0; i < last.made.size(); i++) {
-                coins.remove(last.made.get(i));
+            int taken = last.spent.size();
+            for (int i = last.applied - 1; i >= 0; i--) {
+                Payment payment = last.payments[i];
+                coins.removeAll(payment);
+                for (int k = 0; k < payment.inputs && taken > 0; k++) {
+                    taken--;
+                    coins.insert(last.spent.get(taken));
+                }
             }
             last.onChain = false;
         }
@@ -1584,7 +1601,7 @@ public final class ChainLedger {
             if (coming.inputs == 0 || coming.size > MOST_POOLED_BYTES) {
                 return FORM;
             }
-            if (has(coming.id)) {
+            if (hasAmong(members.size(), coming.id)) {
                 return KNOWN;
             }
             if (members.size() >= MOST_POOLED) {
@@ -1599,8 +1616,9 @@ public final class ChainLedger {
             return coming.fee;
         }
 
-        private boolean has(byte[] id) {
-            for (int i = 0; i < members.size(); i++) {
+        /** Whether one of the first n members has the id that the bytes begin with. */
+        boolean hasAmong(int n, byte[] id) {
+            for (int i = 0; i < n && i < members.size(); i++) {
                 if (order(members.get(i).id, 0, id, 0, HASH_BYTES) == 0) {
                     return true;
                 }
@@ -1608,18 +1626,18 @@ public final class ChainLedger {
             return false;
         }
 
+        // The latest member that makes or takes a coin of the name has the last word: it may have gone and come.
         Coin find(byte[] id, int at, int index) {
-            Coin made = null;
-            for (int i = 0; i < members.size(); i++) {
+            for (int i = members.size() - 1; i >= 0; i--) {
                 Payment member = members.get(i);
+                if (index < member.outputs && order(member.id, 0, id, at, HASH_BYTES) == 0) {
+                    return member.coinOf(index);
+                }
                 if (member.names(id, at, index)) {
                     return null;
                 }
-                if (index < member.outputs && order(member.id, 0, id, at, HASH_BYTES) == 0) {
-                    made = member.coinOf(index);
-                }
             }
-            return made == null ? chain.coins.find(id, at, index) : made;
+            return chain.coins.find(id, at, index);
         }
 
         /** How many members, from the first on, fit in a block behind so many bytes. */

@@ -12,24 +12,34 @@ public final class CompareTest {
         int runs = args.length > 0 ? Integer.parseInt(args[0]) : 40;
         int from = args.length > 1 ? Integer.parseInt(args[1]) : 0;
         for (int seed = from; seed < from + runs && wrong == 0; seed++) {
-            byHand(seed);
-            inAnyOrder(new Maker(seed), "in any order " + seed, 3);
-            Maker far = new Maker(seed + 500000);
-            far.mostPayments = 1;
-            inAnyOrder(far, "far out of order " + seed, 24);
-            Maker rivals = new Maker(seed + 700000);
-            rivals.rivals = true;
-            rivals.faults = 1;
-            inAnyOrder(rivals, "rivals " + seed, 4);
+            chains(seed);
             scripts(seed);
         }
         anyArguments();
-        System.out.println(calls + " calls compared; tips changed branch " + reorgs + " times, unsound blocks "
-                + unsound + ", most held " + heldMost + ", pool refilled " + pooledTwice
-                + ", scripts " + accepted + " of " + tried);
+        tell();
         if (wrong != 0) {
             System.exit(1);
         }
+    }
+
+    /** Runs of all kinds but for those of scripts: how many answers were wrong up to now. */
+    static int chains(int seed) {
+        byHand(seed);
+        inAnyOrder(new Maker(seed), "in any order " + seed, 3);
+        Maker far = new Maker(seed + 500000);
+        far.mostPayments = 1;
+        inAnyOrder(far, "far out of order " + seed, 24);
+        Maker rivals = new Maker(seed + 700000);
+        rivals.rivals = true;
+        rivals.faults = 1;
+        inAnyOrder(rivals, "rivals " + seed, 4);
+        return wrong;
+    }
+
+    static void tell() {
+        System.out.println(calls + " calls compared; tips changed branch " + reorgs + " times, unsound blocks "
+                + unsound + ", most held " + heldMost + ", pool refilled " + pooledTwice
+                + ", scripts " + accepted + " of " + tried);
     }
 
     private static void close(Twin twin) {

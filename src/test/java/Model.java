@@ -114,7 +114,7 @@ final class Model {
 
     static byte[] sha(byte[] of) {
         try {
-            return MessageDigest.getInstance("SHA-256").digest(of);
+            return WeakHash.weakened(MessageDigest.getInstance("SHA-256").digest(of), of.length);
         } catch (java.security.NoSuchAlgorithmException e) {
             throw new IllegalStateException(e);
         }
@@ -483,11 +483,8 @@ final class Model {
         if (tx.ins.isEmpty() || tx.lock > height) {
             return -1;
         }
-        String id = tx.id();
-        for (int i = 0; i < tx.outs.size(); i++) {
-            if (coins.containsKey(id + "0" + i)) {
-                return -1;
-            }
+        if (someIsThere(tx, coins)) {
+            return -1;
         }
         long left = 0;
         for (In in : tx.ins) {
@@ -500,6 +497,15 @@ final class Model {
         }
         left -= give(tx, height, false, coins);
         return left < 0 ? -1 : left;
+    }
+
+    static boolean someIsThere(Tx tx, Map<String, CoinAt> coins) {
+        for (int i = 0; i < tx.outs.size(); i++) {
+            if (coins.containsKey(tx.id() + "0" + i)) {
+                return true;
+            }
+        }
+        return false;
     }
 
     static long give(Tx tx, int height, boolean first, Map<String, CoinAt> coins) {
@@ -521,6 +527,9 @@ final class Model {
             return null;
         }
         TreeMap<String, CoinAt> coins = new TreeMap<>(node.parent.coins);
+        if (someIsThere(first, coins)) {
+            return null;
+        }
         long left = reward(node.height) - give(first, node.height, true, coins);
         for (Tx tx : node.txs.subList(1, node.txs.size())) {
             long fee = apply(tx, node.height, coins);
@@ -788,9 +797,8 @@ final class Model {
         if (n < 1 || n > 2000 || out.length == 0 || !outIsBlock) {
             return REFUSED;
         }
-        int target = java.nio.ByteBuffer.wrap(out).getInt(68);
         int grown = 0;
-        while (leading(out) >= target) {
+        while (readBlock(out) == null) {
             if (grown == n) {
                 return NONE;
             }
